@@ -88,7 +88,7 @@ public final class IceHouse {
         glacier = new Glacier();
         tape = new Tape();
         law = new Law();
-        reader = new LawReader();
+        reader = new LawReader(tape);
         tellings = new Tellings();
         balance = new Balance();
         maps = new Maps();
@@ -142,7 +142,7 @@ public final class IceHouse {
     }
 
     public int law() {
-        boolean told = reader.readLaw(tape);
+        boolean told = reader.readLaw();
         tape.length = 0;
         if (!told) {
             return NONE;
@@ -387,11 +387,11 @@ public final class IceHouse {
     }
 
     private static boolean isCell(int cell) {
-        return within(cell, 0, CELLS - 1);
+        return cell >= 0 && cell < CELLS;
     }
 
     private static boolean isMonth(int t) {
-        return within(t, 0, MONTHS - 1);
+        return t >= 0 && t < MONTHS;
     }
 
     private static boolean isDay(int day) {
@@ -658,14 +658,14 @@ public final class IceHouse {
         }
     }
 
-    /** The bytes that are fed, and the token of them that is read just now. */
+    /** The bytes that are fed, and the tokens that stand in them. */
     private static final class Tape {
         private final int[] bytes = new int[TAPE_MOST];
+        // One token more than bytes: the last is always END.
+        private final int[] tokens = new int[TAPE_MOST + 1];
+        private final int[] places = new int[TAPE_MOST + 1];
+        private final int[] numbers = new int[TAPE_MOST + 1];
         private int length = 0;
-        private int place = 0;
-        private int behind = 0;
-        private int token = END;
-        private int number = 0;
 
         private void append(int four) {
             for (int shift = 24; shift >= 0 && length < bytes.length; shift -= 8) {
@@ -678,63 +678,75 @@ public final class IceHouse {
             return i >= 0 && i < length && i < bytes.length ? bytes[i] : NONE;
         }
 
-        private void rewind() {
-            behind = 0;
-            advance();
+        private void readTokens() {
+            int place = 0;
+            int count = 0;
+            while (place < length && count < TAPE_MOST) {
+                int behind = place + 1;
+                int sign = byteAt(place);
+                if (!isBlank(sign)) {
+                    behind = endOf(place);
+                    places[count] = place;
+                    numbers[count] = isDigit(sign) ? numberIn(place, behind) : 0;
+                    tokens[count] = tokenIn(place, behind);
+                    count++;
+                }
+                place = behind;
+            }
+            places[count] = length;
+            numbers[count] = 0;
+            tokens[count] = END;
         }
 
-        private void advance() {
-            place = behind;
-            while (place < length && isBlank(byteAt(place))) {
-                place++;
+        /** Where the letters or digits that begin at a place end; any other sign stands alone. */
+        private int endOf(int place) {
+            int behind = place + 1;
+            if (isLetter(byteAt(place))) {
+                while (behind < length && isLetter(byteAt(behind))) {
+                    behind++;
+                }
+            } else if (isDigit(byteAt(place))) {
+                while (behind < length && isDigit(byteAt(behind))) {
+                    behind++;
+                }
             }
-            behind = place;
+            return behind;
+        }
+
+        private int tokenIn(int place, int behind) {
             int sign = byteAt(place);
-            if (sign == NONE) {
-                token = END;
-            } else if (isLetter(sign)) {
-                takeWord();
-            } else if (isDigit(sign)) {
-                takeNumber();
-            } else {
-                behind++;
-                token = SIGNS.indexOf((char) sign) >= 0 ? sign : STRANGE;
+            if (isLetter(sign)) {
+                return wordIn(place, behind);
             }
+            if (isDigit(sign)) {
+                return behind - place <= NUMBER_SIZE ? NUMBER : STRANGE;
+            }
+            return SIGNS.indexOf((char) sign) >= 0 ? sign : STRANGE;
         }
 
-        private void takeWord() {
-            while (behind < length && isLetter(byteAt(behind))) {
-                behind++;
-            }
-            token = STRANGE;
-            for (int word = 0; (word + 1) * WORD_SIZE <= WORDS.length(); word++) {
-                if (spells(word)) {
-                    token = FALL + word;
-                }
-            }
-        }
-
-        private boolean spells(int word) {
+        private int wordIn(int place, int behind) {
             if (behind - place > WORD_SIZE) {
-                return false;
+                return STRANGE;
             }
-            for (int i = 0; i < WORD_SIZE; i++) {
-                int got = place + i < behind ? byteAt(place + i) : ' ';
-                int due = word * WORD_SIZE + i;
-                if (due < 0 || due >= WORDS.length() || WORDS.charAt(due) != got) {
-                    return false;
+            for (int from = 0; from + WORD_SIZE <= WORDS.length(); from += WORD_SIZE) {
+                boolean like = true;
+                for (int i = 0; i < WORD_SIZE; i++) {
+                    int got = place + i < behind ? byteAt(place + i) : ' ';
+                    like = like && WORDS.charAt(from + i) == got;
+                }
+                if (like) {
+                    return FALL + from / WORD_SIZE;
                 }
             }
-            return true;
+            return STRANGE;
         }
 
-        private void takeNumber() {
-            number = 0;
-            while (behind < length && isDigit(byteAt(behind))) {
-                number = number * 10 + byteAt(behind) - '0';
-                behind++;
+        private int numberIn(int place, int behind) {
+            int number = 0;
+            for (int i = place; i < behind && i < place + NUMBER_SIZE; i++) {
+                number = number * 10 + byteAt(i) - '0';
             }
-            token = behind - place <= NUMBER_SIZE ? NUMBER : STRANGE;
+            return number;
         }
 
         private static boolean isBlank(int sign) {
@@ -742,11 +754,11 @@ public final class IceHouse {
         }
 
         private static boolean isLetter(int sign) {
-            return within(sign, 'a', 'z') || within(sign, 'A', 'Z');
+            return sign >= 'a' && sign <= 'z' || sign >= 'A' && sign <= 'Z';
         }
 
         private static boolean isDigit(int sign) {
-            return within(sign, '0', '9');
+            return sign >= '0' && sign <= '9';
         }
     }
 
@@ -755,7 +767,7 @@ public final class IceHouse {
      * one below 0 is the token, negated, that asks a fact or joins what lies on top.
      */
     private static final class Law {
-        // A sum, a product and a unit in each of nine nests, and or, and, and a claim's left side.
+        // Nine nests at most keep a sum and a product waiting each, a condition three values more.
         private static final int STACK = 40;
 
         private final int[] sorts = new int[LINES];
@@ -859,87 +871,96 @@ public final class IceHouse {
 
     /** Reads THE LAW from a tape into a draft, so that a FAULT leaves the law in force as it is. */
     private static final class LawReader {
+        private final Tape tape;
         private final Law draft = new Law();
+        private int at = 0;
+        private int token = END;
         private int fault = 0;
         private int faultPlace = NONE;
 
-        private boolean readLaw(Tape tape) {
+        private LawReader(Tape tape) {
+            this.tape = tape;
+        }
+
+        private boolean readLaw() {
             fault = 0;
             faultPlace = NONE;
             draft.clear();
-            tape.rewind();
-            for (int line = 0; line <= LINES && tape.token != END; line++) {
-                if (!readLine(tape)) {
+            tape.readTokens();
+            at = 0;
+            token = tape.tokens[0];
+            for (int line = 0; line <= LINES && token != END; line++) {
+                if (!readLine()) {
                     return false;
                 }
             }
             return true;
         }
 
-        private boolean readLine(Tape tape) {
-            int sort = tape.token;
+        private boolean readLine() {
+            int sort = token;
             if (!within(sort, FALL, ICE)) {
-                return fail(FAULT_PLACE, tape);
+                return fail(FAULT_PLACE);
             }
             if (draft.lines >= LINES) {
-                return fail(FAULT_MANY, tape);
+                return fail(FAULT_MANY);
             }
             int start = draft.length;
-            tape.advance();
-            if (!readSum(tape, 0)) {
+            advance();
+            if (!readSum(0)) {
                 return false;
             }
             int middle = draft.length;
-            if (tape.token == WHEN) {
-                tape.advance();
-                if (!readEither(tape)) {
+            if (token == WHEN) {
+                advance();
+                if (!readCondition()) {
                     return false;
                 }
             }
             draft.addLine(sort, start, middle);
-            return take(';', tape);
+            return take(';');
         }
 
-        /** B = A {or A}. */
-        private boolean readEither(Tape tape) {
-            boolean fine = readBoth(tape);
-            for (int k = 0; k < TAPE_MOST && fine && tape.token == OR; k++) {
-                tape.advance();
-                fine = readBoth(tape);
+        /** B = A {or A} and A = C {and C}: an or waits until the A behind it is read. */
+        private boolean readCondition() {
+            boolean waits = false;
+            boolean fine = readClaim(0);
+            for (int k = 0; k < TAPE_MOST && fine && (token == AND || token == OR); k++) {
+                boolean both = token == AND;
+                if (!both && waits) {
+                    draft.addStep(-OR);
+                }
+                waits = waits || !both;
+                advance();
+                fine = readClaim(0);
+                if (both) {
+                    draft.addStep(-AND);
+                }
+            }
+            if (waits) {
                 draft.addStep(-OR);
             }
             return fine;
         }
 
-        /** A = C {and C}. */
-        private boolean readBoth(Tape tape) {
-            boolean fine = readClaim(tape, 0);
-            for (int k = 0; k < TAPE_MOST && fine && tape.token == AND; k++) {
-                tape.advance();
-                fine = readClaim(tape, 0);
-                draft.addStep(-AND);
-            }
-            return fine;
-        }
-
         /** C = E (< | = | >) E | not C. */
-        private boolean readClaim(Tape tape, int open) {
-            if (tape.token == NOT) {
-                if (!openOne(tape, open) || !readClaim(tape, open + 1)) {
+        private boolean readClaim(int open) {
+            if (token == NOT) {
+                if (!openOne(open) || !readClaim(open + 1)) {
                     return false;
                 }
                 draft.addStep(-NOT);
                 return true;
             }
-            if (!readSum(tape, open)) {
+            if (!readSum(open)) {
                 return false;
             }
-            int sign = tape.token;
+            int sign = token;
             if (sign != '<' && sign != '=' && sign != '>') {
-                return fail(FAULT_PLACE, tape);
+                return fail(FAULT_PLACE);
             }
-            tape.advance();
-            if (!readSum(tape, open)) {
+            advance();
+            if (!readSum(open)) {
                 return false;
             }
             draft.addStep(-sign);
@@ -947,72 +968,81 @@ public final class IceHouse {
         }
 
         /** E = T {(+ | -) T}. */
-        private boolean readSum(Tape tape, int open) {
-            boolean fine = readProduct(tape, open);
-            for (int k = 0; k < TAPE_MOST && fine && (tape.token == '+' || tape.token == '-'); k++) {
-                int sign = tape.token;
-                tape.advance();
-                fine = readProduct(tape, open);
+        private boolean readSum(int open) {
+            boolean fine = readProduct(open);
+            for (int k = 0; k < TAPE_MOST && fine && (token == '+' || token == '-'); k++) {
+                int sign = token;
+                advance();
+                fine = readProduct(open);
                 draft.addStep(-sign);
             }
             return fine;
         }
 
         /** T = U {(* U | / NUMBER)}. */
-        private boolean readProduct(Tape tape, int open) {
-            boolean fine = readUnit(tape, open);
-            for (int k = 0; k < TAPE_MOST && fine && (tape.token == '*' || tape.token == '/'); k++) {
-                int sign = tape.token;
-                tape.advance();
-                fine = sign == '*' ? readUnit(tape, open) : readDivisor(tape);
+        private boolean readProduct(int open) {
+            boolean fine = readUnit(open);
+            for (int k = 0; k < TAPE_MOST && fine && (token == '*' || token == '/'); k++) {
+                int sign = token;
+                advance();
+                fine = sign == '*' ? readUnit(open) : readDivisor();
                 draft.addStep(-sign);
             }
             return fine;
         }
 
-        private boolean readUnit(Tape tape, int open) {
-            if (tape.token == '(') {
-                return openOne(tape, open) && readSum(tape, open + 1) && take(')', tape);
+        private boolean readUnit(int open) {
+            if (token == '(') {
+                return openOne(open) && readSum(open + 1) && take(')');
             }
-            if (tape.token == NUMBER) {
-                draft.addStep(tape.number);
-                return take(NUMBER, tape);
+            if (token == NUMBER) {
+                draft.addStep(tape.numbers[at]);
+                return take(NUMBER);
             }
-            if (within(tape.token, WARM, LYING)) {
-                draft.addStep(-tape.token);
-                return take(tape.token, tape);
+            if (within(token, WARM, LYING)) {
+                draft.addStep(-token);
+                return take(token);
             }
-            return fail(FAULT_PLACE, tape);
+            return fail(FAULT_PLACE);
         }
 
-        private boolean readDivisor(Tape tape) {
-            if (tape.token == NUMBER && tape.number == 0) {
-                return fail(FAULT_PART, tape);
+        private boolean readDivisor() {
+            int number = tape.numbers[at];
+            if (token == NUMBER && number == 0) {
+                return fail(FAULT_PART);
             }
-            draft.addStep(tape.number);
-            return take(NUMBER, tape);
+            draft.addStep(number);
+            return take(NUMBER);
         }
 
         /** Goes behind a ( or not, of which so many are open already. */
-        private boolean openOne(Tape tape, int open) {
+        private boolean openOne(int open) {
             if (open >= OPEN_MOST) {
-                return fail(FAULT_MANY, tape);
+                return fail(FAULT_MANY);
             }
-            tape.advance();
+            advance();
             return true;
         }
 
-        private boolean take(int token, Tape tape) {
-            if (tape.token != token) {
-                return fail(FAULT_PLACE, tape);
+        private boolean take(int due) {
+            if (token != due) {
+                return fail(FAULT_PLACE);
             }
-            tape.advance();
+            advance();
             return true;
         }
 
-        private boolean fail(int kind, Tape tape) {
+        /** Goes on to the next token; END stays. */
+        private void advance() {
+            if (token != END && at < TAPE_MOST) {
+                at++;
+            }
+            token = tape.tokens[at];
+        }
+
+        private boolean fail(int kind) {
             fault = kind;
-            faultPlace = tape.place;
+            faultPlace = tape.places[at];
             return false;
         }
     }

@@ -21,8 +21,7 @@ final class LanguageTests {
                 Checks.due("sign " + (int) c + " in the source", 1, 0);
             }
         }
-        for (String word : "throw try catch synchronized assert import package protected void.finalize Exact System Object"
-            .replace("void.finalize", "finalize").split(" ")) {
+        for (String word : "throw try catch synchronized assert import package protected equals hashCode toString".split(" ")) {
             Checks.due("'" + word + "' in the source", count(code, "\\b" + word + "\\b"), 0);
         }
         Checks.due("-> in the source", count(code, "->"), 0);

@@ -24,6 +24,8 @@ final class PromiseTests {
         workFallAndMelt();
         workYear();
         workFlow();
+        workFlowOrder();
+        workLittle();
         workBounds();
         run();
         look();
@@ -37,10 +39,12 @@ final class PromiseTests {
         gauged();
         mapped();
         gain();
+        gainOfTheLast();
         value();
         sum();
         next();
         offset();
+        offsetOfAll();
         parted();
         unlike();
         foretell();
@@ -410,6 +414,8 @@ final class PromiseTests {
         due("10 and", holds("1 = 1 and 1 = 2"), false);
         due("10 or", holds("1 = 2 or 1 = 2"), false);
         due("10 not", holds("not 1 = 2"), true);
+        due("10 not so", holds("not 1 = 1"), false);
+        due("10 not not so", holds("not not 1 = 1"), true);
         due("10 not binds closest", holds("not 1 = 1 or 1 = 1"), true);
         due("10 not and", holds("not 1 = 2 and 1 = 2"), false);
         due("10 not not", holds("not not 1 = 2"), false);
@@ -523,6 +529,76 @@ final class PromiseTests {
         due("11 200 * 300 * 10 / 10000", x.of(33, 3), 240);
     }
 
+    /** ICE of 40 steps on a CELL 300 above all others flows to one of them. */
+    private static int flowsTo(int from, int... higher) {
+        IceHouse x = new IceHouse();
+        x.rates(0, 10);
+        x.set(from, 0, 300);
+        x.set(from, 3, 40);
+        for (int cell : higher) {
+            x.set(cell, 0, 1);
+        }
+        x.work(12);
+        due("11 340 * 40 * 10 / 10000", x.of(from, 3), 40 - 13);
+        for (int cell = 0; cell < 60; cell++) {
+            if (cell != from && x.of(cell, 3) > 0) {
+                due("11 all of it", x.of(cell, 3), 13);
+                return cell;
+            }
+        }
+        return -1;
+    }
+
+    private static void workFlowOrder() {
+        due("11 in a corner", flowsTo(0, 10), 1);
+        due("11 in a corner", flowsTo(0), 1);
+        due("11 in a corner", flowsTo(0, 1), 10);
+        due("11 in a corner", flowsTo(9), 8);
+        due("11 in a corner", flowsTo(9, 8), 19);
+        due("11 in a corner", flowsTo(50), 40);
+        due("11 in a corner", flowsTo(50, 40), 51);
+        due("11 in a corner", flowsTo(59), 49);
+        due("11 in a corner", flowsTo(59, 49), 58);
+        due("11 at a side", flowsTo(29, 19, 28), 39);
+        due("11 at a side", flowsTo(30, 20, 31), 40);
+        due("11 of like ones the least", flowsTo(34), 24);
+        due("11 of like ones the least", flowsTo(34, 24), 33);
+        due("11 of like ones the least", flowsTo(34, 24, 33), 35);
+        due("11 of like ones the least", flowsTo(34, 24, 33, 35), 44);
+        IceHouse x = new IceHouse();
+        x.rates(0, 99);
+        x.set(0, 0, 300);
+        x.set(0, 3, 1);
+        x.set(1, 0, 150);
+        x.set(1, 3, 100);
+        x.set(10, 0, 900);
+        x.set(11, 0, 900);
+        x.set(2, 0, 100);
+        x.work(12);
+        due("11 all at once: 51 * 1 * 99 / 10000", x.of(0, 3), 1);
+        due("11 75 of 100: half of 150", x.of(1, 3), 25);
+        due("11 by SURFACES as they were", x.of(2, 3), 75);
+        due("11 nothing further", x.of(3, 3), 0);
+    }
+
+    private static void workLittle() {
+        IceHouse x = new IceHouse();
+        x.rates(0, 0);
+        x.set(0, 3, 1);
+        Checks.law(x, "fall 1 when rain = 1; snow 5; ice 7;");
+        x.weather(0, 0, 1, 0);
+        due("11 the unit that fell", x.work(1), 60);
+        due("11 ICE under it stays", x.look(4), 100);
+        Checks.law(x, "fall 1 when rain = 1; snow 5 when month = 2; ice 7;");
+        x.weather(1, 0, 1, 0);
+        due("11 the unit lies", x.work(1), 0);
+        due("11 one unit of SNOW melts, no ICE", x.work(1), 60);
+        due("11 ICE", x.work(1), 7);
+        x.weather(4, 1, 1, 0);
+        due("11 rain on ICE, where no SNOW lies", x.work(1), 60 + 7);
+        due("11 WATER", x.look(4), 86);
+    }
+
     private static void workBounds() {
         IceHouse x = new IceHouse();
         x.rates(0, 0);
@@ -591,6 +667,13 @@ final class PromiseTests {
         due("13 WATER", x.look(4), 1040);
         due("13 LOOSE is no ICE", x.look(5), 1);
         due("13 least GROUND now", x.look(6), 400);
+        x.set(0, 0, 399);
+        x.set(0, 3, 1);
+        due("13 CELL 0 counts", x.look(5), 2);
+        due("13 GROUND of CELL 0", x.look(6), 399);
+        x.set(59, 3, 1);
+        due("13 CELL 59 counts", x.look(5), 3);
+        due("13 GROUND of CELL 59", x.look(6), 0);
         due("13 what 9", x.look(9), NO_FACT);
         due("13 what -1", x.look(-1), NO_FACT);
     }
@@ -671,10 +754,10 @@ final class PromiseTests {
         IceHouse x = new IceHouse();
         x.pole(0);
         for (int k = 0; k < 100; k++) {
-            x.read(0, k, k, 0, 1);
             x.pit(k % 60, k, 5, 1);
             x.gauge(k, k, 1);
             x.map(k % 3, k % 60, k, 1);
+            x.read(0, k, k, 7, 1);
         }
         due("15 400", x.look(7), 400);
         due("15 there are 400", x.read(0, 0, 1, 1, 1), false);
@@ -686,6 +769,7 @@ final class PromiseTests {
         due("20 the last", x.gauged(99, 1), 99);
         due("21 the last", x.mapped(0, 39, 1), 99);
         due("19 the last", x.reading(0, 99, 1, 0), 99);
+        due("19 the last DEEP", x.reading(0, 99, 1, 1), 7);
     }
 
     private static void reading() {
@@ -781,6 +865,29 @@ final class PromiseTests {
         due("22 b 360", x.gain(0, 5, 360, 3, 0), NO_GAIN);
         due("22 day -1", x.gain(0, 5, 8, -1, 0), NO_GAIN);
         due("22 day 10000", x.gain(0, 5, 8, 10000, 0), NO_GAIN);
+    }
+
+    private static void gainOfTheLast() {
+        IceHouse x = new IceHouse();
+        x.set(0, 0, 900);
+        x.set(59, 0, 999 - 99);
+        for (int k = 0; k < 11; k++) {
+            x.pole(k);
+        }
+        due("14 the twelfth", x.pole(59), 11);
+        x.read(11, 0, 9, 1, 1);
+        x.read(11, 359, 8, 2, 1);
+        x.pit(0, 0, 5, 1);
+        x.pit(59, 0, 4, 1);
+        due("19 least of BAND 9", x.reading(11, 0, 1, 2), 4);
+        due("19 greatest of BAND 9", x.reading(11, 0, 1, 3), 5);
+        due("22 LOW of POLE 11: 9 + 2 * 2 - 5", x.gain(11, 0, 359, 1, 0), 8);
+        due("22 HIGH of POLE 11: 9 + 2 * 6 - 4", x.gain(11, 0, 359, 1, 1), 17);
+        due("22 POLE 10", x.gain(10, 0, 359, 1, 1), NO_GAIN);
+        due("24 BAND 9", x.sum(0, 359, 1, 4), 1);
+        x.set(20, 3, 1);
+        due("25 BAND 0", x.next(0, 359, 1), 0);
+        due("23 BAND 0 by BAND 9", x.value(0, 0, 359, 1, 2), 9);
     }
 
     /** A POLE with a GAIN of 9 times so much from MONTH 0 to 1, without a span. */
@@ -928,6 +1035,16 @@ final class PromiseTests {
         due("26 day 0", x.offset(0, 2, 0), NO_OFFSET);
     }
 
+    private static void offsetOfAll() {
+        IceHouse x = new IceHouse();
+        for (int cell = 0; cell < 60; cell++) {
+            x.map(1, cell, 600, 1);
+            x.map(2, cell, 600 + cell * 7 % 60 - 20, 1);
+        }
+        due("26 of sixty the 30th", x.offset(1, 2, 1), 9);
+        due("26 of sixty the 30th", x.offset(2, 1, 1), -10);
+    }
+
     private static void parted() {
         IceHouse x = fourPoles();
         x.set(0, 3, 5);
@@ -1013,6 +1130,8 @@ final class PromiseTests {
         due("29 MONTH 6 of YEAR 1", x.foretell(1, 1, 0), 16 * 60);
         due("29 over the end of the YEAR", x.foretell(8, 1, 0), 60 * (16 + 17 + 18 + 19 + 20 + 21 + 10 + 11));
         due("29 the least", x.foretell(8, 1, 1), 600);
+        due("29 the least is the first", x.foretell(3, 1, 1), 960);
+        due("29 of one", x.foretell(1, 1, 1), 960);
         due("29 WATER", x.foretell(8, 1, 2), water);
         due("29 nothing is done", x.look(0), 30);
         due("29 FELL stays", x.look(1), 60 * (12 * 20 + 66 + 12 * 10 + 66));
@@ -1061,6 +1180,11 @@ final class PromiseTests {
         due("30 YEAR 2 is LEAST", x.spread(7, 2), 2);
         x.work(12);
         due("30 of several the first", x.spread(7, 2), 2);
+        due("30 MOST", x.spread(24, 3), 0);
+        IceHouse z = new IceHouse();
+        z.work(24);
+        due("30 LEAST of like ones", z.spread(24, 2), 0);
+        due("30 MOST of like ones", z.spread(24, 3), 0);
         due("30 none was", new IceHouse().spread(1, 0), -1);
         IceHouse y = new IceHouse();
         y.work(11);

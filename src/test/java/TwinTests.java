@@ -24,6 +24,10 @@ final class TwinTests {
             day = 0;
             play(run);
         }
+        for (int k = 0; k < 20 * many; k++) {
+            seed = 0x5DEECE66DL * (k + 7) + 5;
+            nestedLaw();
+        }
         for (int k = 0; k < seen.length; k++) {
             Checks.due("calls of kind " + k, seen[k] > 50, true);
         }
@@ -125,7 +129,10 @@ final class TwinTests {
     }
 
     private static void tellLaw() {
-        String text = lawText();
+        tellText(lawText());
+    }
+
+    private static void tellText(String text) {
         for (int at = 0; at < text.length(); at += 20) {
             int a = Checks.four(text, at);
             int b = Checks.four(text, at + 4);
@@ -143,6 +150,32 @@ final class TwinTests {
             int what = k % 4;
             same(4, "tells of " + text, x.tells(cell, what), -1000, () -> twin.tells(cell, what));
         }
+    }
+
+    /** So many ( and not around one another that some are the ninth. */
+    private static String nest(int left) {
+        if (left == 0) {
+            return unit(4);
+        }
+        String side = any(3) == 0 ? unit(4) + " + " : any(3) == 0 ? "2 * " : "";
+        return "(" + side + nest(left - 1) + (any(4) == 0 ? "/" + any(3) : "") + ")" + (any(4) == 0 ? "-" + nest(any(3)) : "");
+    }
+
+    private static void nestedLaw() {
+        x = new IceHouse();
+        twin = new Twin();
+        StringBuilder text = new StringBuilder(SORTS[any(3)] + " " + nest(any(11)));
+        String word = " when ";
+        for (int k = any(5); k > 0; k--) {
+            int nots = any(9);
+            text.append(word).append("not ".repeat(nots)).append(nest(Math.max(0, any(10 - nots)))).append(any(2) == 0 ? "<" : " = ").append(nest(any(3)));
+            word = any(2) == 0 ? " and " : " or ";
+        }
+        text.append(';');
+        if (any(2) == 0) {
+            text.insert(any(text.length()), PIECES[any(PIECES.length)]);
+        }
+        tellText(text.length() > 800 ? text.substring(0, 800) : text.toString());
     }
 
     private static void play(int run) {
