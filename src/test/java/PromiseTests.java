@@ -15,6 +15,7 @@ final class PromiseTests {
         lawLines();
         lawFaultsByPlace();
         lawFaultsByCount();
+        lawOfFullTape();
         lawKeptOnFault();
         fault();
         of();
@@ -225,6 +226,15 @@ final class PromiseTests {
         badLaw("falls 1;", 1, 0);
         badLaw("Fall 1;", 1, 0);
         badLaw("fall\t1;", 1, 4);
+        for (char letter : "azAZmM".toCharArray()) {
+            badLaw("fall" + letter + " 1;", 1, 0);
+        }
+        for (char sign : "@[`{".toCharArray()) {
+            badLaw("fall" + sign + " 1;", 1, 4);
+            badLaw("fall 1" + sign, 1, 6);
+        }
+        badLaw("fall 1/", 1, 7);
+        badLaw("fall 1:", 1, 6);
         badLaw("fall 12345;", 1, 5);
         badLaw("fall 1 2;", 1, 7);
         badLaw("fall 1 fall 2;", 1, 7);
@@ -282,6 +292,20 @@ final class PromiseTests {
         due("7 nots are closed and count", x.tells(0, 0), 0);
         due("7 all open at once", Checks.law(x, "fall 7 when not not not not ((((1)))) < ((((2))));"), 1);
         due("7 all open at once count", x.tells(0, 0), 7);
+    }
+
+    private static void lawOfFullTape() {
+        IceHouse x = new IceHouse();
+        String sum = "fall1" + "+1".repeat(397);
+        due("7 800 bytes", Checks.law(x, sum + ";"), 1);
+        due("7 398 numbers", x.tells(0, 0), 398);
+        badLaw(sum + " ", 1, 800);
+        badLaw(sum + "+", 1, 800);
+        badLaw(";".repeat(800), 1, 0);
+        badLaw("(".repeat(800), 1, 0);
+        badLaw("fall" + "9".repeat(796), 1, 4);
+        badLaw("a".repeat(800), 1, 0);
+        due("7 800 blanks", Checks.law(x, " ".repeat(800)), 0);
     }
 
     private static void lawKeptOnFault() {
