@@ -65,8 +65,9 @@ final class PromiseTests {
         IceHouse x = new IceHouse();
         due("1 NONE", IceHouse.NONE, -1);
         for (int cell = 0; cell < 60; cell++) {
+            IceHouse one = new IceHouse();
             for (int what = 0; what <= 9; what++) {
-                due("1 of(" + cell + ", " + what + ")", x.of(cell, what), 0);
+                due("1 of(" + cell + ", " + what + ")", one.of(cell, what), 0);
             }
         }
         for (int what = 0; what <= 8; what++) {
