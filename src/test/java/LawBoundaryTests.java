@@ -251,6 +251,17 @@ final class LawBoundaryTests extends Boundary {
         due(x.tells(0, 1), 0);
     }
 
+    static void promise07AFullTapeAgainAndAgain() {
+        sentence("The TAPE, empty then, is THE LAW: how many lines.");
+        IceHouse x = new IceHouse();
+        for (int k = 1; k <= 4; k++) {
+            due(Checks.law(x, "ice" + k + "+1".repeat(397) + ";"), 1);
+            due(x.tells(0, 2), 397 + k);
+            due(Checks.law(x, "ice 5" + "*2".repeat(396)), NONE);
+            due(x.tells(0, 2), 397 + k);
+        }
+    }
+
     static void promise07SumsAndProductsOfOneAndOfMany() {
         sentence("E = T {(+ | -) T}. T = U {(* U | / NUMBER)}. U = NUMBER | warm | rain | dust | height | shade | debris | month | lying | ( E ).");
         good("fall 1;", 1);
@@ -371,6 +382,11 @@ final class LawBoundaryTests extends Boundary {
         good(sum + ";", 1);
         bad("fall 1;" + " ".repeat(792) + ";", 1, 799);
         bad("fall 1;" + " ".repeat(789) + "fall", 1, 800);
+        bad(";".repeat(800), 1, 0);
+        bad("(".repeat(800), 1, 0);
+        bad("fall " + "(".repeat(795), 3, 13);
+        bad("fall" + "9".repeat(796), 1, 4);
+        bad("f".repeat(800), 1, 0);
     }
 
     static void promise08LettersStandTogether() {

@@ -251,7 +251,12 @@ final class TellBoundaryTests extends Boundary {
                 due(so(left + "<" + right) ? 1 : 0, a < b ? 1 : 0);
                 due(so(left + "=" + right) ? 1 : 0, a == b ? 1 : 0);
                 due(so(left + ">" + right) ? 1 : 0, a > b ? 1 : 0);
+                due(so("not " + left + "<" + right) ? 1 : 0, a < b ? 0 : 1);
+                due(so("not " + left + "=" + right) ? 1 : 0, a == b ? 0 : 1);
                 due(so("not " + left + ">" + right) ? 1 : 0, a > b ? 0 : 1);
+                due(so(left + "<" + right + " and 1=1") ? 1 : 0, a < b ? 1 : 0);
+                due(so("1<2 and " + left + ">" + right) ? 1 : 0, a > b ? 1 : 0);
+                due(so("2<1 or " + left + "<" + right + " and 2>1") ? 1 : 0, a < b ? 1 : 0);
             }
         }
         yes(so("not not not not not not not not 1=1"));

@@ -64,14 +64,20 @@ final class TellingBoundaryTests extends Boundary {
         due(x.look(7), 4);
     }
 
-    private static void the400th(Told told) {
+    /** What is known then: FREE, DEEP, the two WEIGHTS, the GAUGE and the height. */
+    private static void the400th(Told told, int... then) {
         IceHouse x = onePole();
-        for (int k = 0; k < 399; k++) {
+        x.read(0, 0, 8, 9, 3);
+        for (int k = 1; k < 399; k++) {
             x.gauge(k % 360, k, 3);
         }
         due(x.look(7), 399);
         yes(told.on(x, 8));
         long[] stood = known(x);
+        due(stood[0], 400);
+        for (int i = 0; i < then.length; i++) {
+            due(stood[i + 1], then[i]);
+        }
         for (Told more : KINDS) {
             no(more.on(x, 8));
             no(more.on(x, 9));
@@ -211,7 +217,7 @@ final class TellingBoundaryTests extends Boundary {
 
     static void promise15The400th() {
         sentence(ALL_400);
-        the400th(READ);
+        the400th(READ, 1, 2, 2, 6, 360, NONE);
     }
 
     // ---- promise 16
@@ -261,7 +267,7 @@ final class TellingBoundaryTests extends Boundary {
 
     static void promise16The400th() {
         sentence("A PIT: likewise.");
-        the400th(PIT);
+        the400th(PIT, 8, 9, 3, 3, 360, NONE);
     }
 
     // ---- promise 17
@@ -298,7 +304,7 @@ final class TellingBoundaryTests extends Boundary {
 
     static void promise17The400th() {
         sentence("A GAUGE: likewise.");
-        the400th(GAUGE);
+        the400th(GAUGE, 8, 9, 2, 6, 4, NONE);
     }
 
     // ---- promise 18
@@ -345,7 +351,7 @@ final class TellingBoundaryTests extends Boundary {
 
     static void promise18The400th() {
         sentence("A height of a MAP: likewise.");
-        the400th(MAP);
+        the400th(MAP, 8, 9, 2, 6, 360, 5);
     }
 
     // ---- promise 19
