@@ -31,6 +31,7 @@ final class LanguageTests {
         Checks.due("static fields that are not final", count(code, "(?m)^ *(private |public )?static (?!final )[a-zA-Z\\[\\]]+ [a-zA-Z]+ *(=|;)"), 0);
         checkFace(code);
         checkMethods(code);
+        checkRoom(code);
         Checks.close("LanguageTests");
     }
 
@@ -64,6 +65,19 @@ final class LanguageTests {
                 start = 0;
             }
         }
+    }
+
+    /** All that a house ever makes it makes with its constructor: no call may fill the one room of a run. */
+    private static void checkRoom(String code) {
+        boolean constructor = false;
+        for (String row : code.split("\n", -1)) {
+            constructor = row.equals("    public IceHouse() {") || constructor && !row.equals("    }");
+            if (row.matches(".*\\bnew\\b.*")) {
+                boolean field = row.matches("^        private final [A-Za-z]+(\\[\\])? [a-zA-Z]+ = new .*;$");
+                Checks.due("made by a call: " + row.strip(), field || constructor, true);
+            }
+        }
+        Checks.due("copies made by a call", count(code, "\\bclone\\(|copyOf|substring|StringBuilder|toCharArray|ArrayList"), 0);
     }
 
     private static int count(String code, String pattern) {

@@ -1,7 +1,11 @@
 import java.util.function.LongSupplier;
 
-/** Long runs of calls, mostly of what can be, answered by the house and its twin alike. */
+/** Runs of 512 calls at most, mostly of what can be, answered by the house and its twin alike. */
 final class TwinTests {
+    private static final int CALLS = 512;
+    // The most that one step calls: a law of 800 bytes is fed, told and asked.
+    private static final int STEP_CALLS = 40 + 16;
+
     private static final String[] FACTS = {"warm", "rain", "dust", "height", "shade", "debris", "month", "lying"};
     private static final String[] SORTS = {"fall", "snow", "ice"};
     private static final String[] PIECES = {"fall", "snow", "ice", "when", "or", "and", "not", "warm", "x", "Q", "12345", "0", "/ 0", "/ 7",
@@ -12,26 +16,33 @@ final class TwinTests {
     private static Twin twin;
     private static int day;
     private static int[] seen;
-    private static int answers;
+    private static int left;
 
     public static void main(String[] args) {
-        int many = args.length > 1 ? Integer.parseInt(args[1]) : 150;
+        int many = args.length > 1 ? Integer.parseInt(args[1]) : 400;
         seen = new int[29];
         for (int run = 0; run < many; run++) {
             seed = 0x5DEECE66DL * (run + 1) + 11;
-            x = new IceHouse();
-            twin = new Twin();
-            day = 0;
-            play(run);
+            anew();
+            play();
+            Checks.due("calls beyond " + CALLS, left < 0, false);
         }
-        for (int k = 0; k < 20 * many; k++) {
+        for (int k = 0; k < 8 * many; k++) {
             seed = 0x5DEECE66DL * (k + 7) + 5;
             nestedLaw();
+            Checks.due("calls beyond " + CALLS, left < 0, false);
         }
         for (int k = 0; k < seen.length; k++) {
             Checks.due("calls of kind " + k, seen[k] > 50, true);
         }
         Checks.close("TwinTests");
+    }
+
+    private static void anew() {
+        x = new IceHouse();
+        twin = new Twin();
+        day = 0;
+        left = CALLS;
     }
 
     private static int any(int n) {
@@ -124,7 +135,7 @@ final class TwinTests {
         } catch (Twin.Bad bad) {
             due = none;
         }
-        answers++;
+        left--;
         Checks.due(call, got, due);
     }
 
@@ -162,8 +173,7 @@ final class TwinTests {
     }
 
     private static void nestedLaw() {
-        x = new IceHouse();
-        twin = new Twin();
+        anew();
         StringBuilder text = new StringBuilder(SORTS[any(3)] + " " + nest(any(11)));
         String word = " when ";
         for (int k = any(5); k > 0; k--) {
@@ -178,22 +188,25 @@ final class TwinTests {
         tellText(text.length() > 800 ? text.substring(0, 800) : text.toString());
     }
 
-    private static void play(int run) {
+    private static void play() {
         int most = 1 + any(40);
+        int bare = 1 + any(4);
         for (int cell = 0; cell < 60; cell++) {
             int c = cell;
             int[] v = {any(901), any(10), any(51), any(3) == 0 ? 0 : any(301)};
             for (int what = 0; what < 4; what++) {
                 int w = what;
-                same(5, "set", x.set(c, w, v[w]) ? 1 : 0, 0, () -> twin.set(c, w, v[w]));
+                if (any(4) >= bare) {
+                    same(5, "set", x.set(c, w, v[w]) ? 1 : 0, 0, () -> twin.set(c, w, v[w]));
+                }
             }
         }
         for (int t = 0; t < most; t++) {
             weather(t);
         }
         tellLaw();
-        for (int k = 0; k < 300; k++) {
-            step(run, 24 * any(2) + 1 + any(14));
+        while (left >= STEP_CALLS) {
+            step(24 * any(2) + 1 + any(14));
         }
     }
 
@@ -212,7 +225,7 @@ final class TwinTests {
         return any(10) > 0 ? any(day + 2) : pick(0, 9999);
     }
 
-    private static void step(int run, int way) {
+    private static void step(int way) {
         if (any(2) == 0) {
             tell();
         } else if (any(4) == 0) {
@@ -233,7 +246,7 @@ final class TwinTests {
         boolean done = false;
         switch (any(6)) {
             case 0:
-                if (any(12) == 0 || x.look(8) < 4) {
+                if (any(12) == 0 || twin.look(8) < 4) {
                     same(7, "pole", x.pole(cell), -1, () -> twin.pole(cell));
                 }
                 break;
@@ -252,9 +265,9 @@ final class TwinTests {
                 break;
             }
             case 4: {
-                int now = (int) x.look(0);
+                int now = (int) twin.look(0);
                 int g = any(3) > 0 && now > 0 ? any(now) : t;
-                int ran = any(4) == 0 ? pick(0, 9999999) : Math.max(0, x.run(g) + (any(3) == 0 ? 0 : x.run(g) / 100 * (any(50) - 25)));
+                int ran = any(4) == 0 ? pick(0, 9999999) : ranAbout(g);
                 done = x.gauge(g, ran, d);
                 same(10, "gauge", done ? 1 : 0, 0, () -> twin.gauge(g, ran, d));
                 break;
@@ -270,11 +283,17 @@ final class TwinTests {
         day = done ? d : day;
     }
 
+    /** What ran in a MONTH, or somewhat more or less. */
+    private static int ranAbout(int t) {
+        int ran = t >= 0 && t < twin.look(0) ? (int) twin.run(t) : 0;
+        return Math.max(0, ran + (any(3) == 0 ? 0 : ran / 100 * (any(50) - 25)));
+    }
+
     private static void change(int way) {
         switch (any(6)) {
             case 0: {
                 int months = any(3) == 0 ? pick(1, 24) : 1 + any(4);
-                if (x.look(0) + months < 40 || any(20) == 0) {
+                if (twin.look(0) + months < 40 || any(20) == 0) {
                     same(12, "work", x.work(months), -1, () -> twin.work(months));
                 }
                 break;
@@ -293,7 +312,7 @@ final class TwinTests {
                 break;
             }
             case 3:
-                weather(any(3) == 0 ? pick(0, 359) : (int) x.look(0) + any(way));
+                weather(any(3) == 0 ? pick(0, 359) : (int) twin.look(0) + any(way));
                 break;
             case 4:
                 if (any(6) == 0) {

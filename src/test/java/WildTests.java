@@ -6,10 +6,11 @@ final class WildTests {
     private static long seed = 77;
 
     public static void main(String[] args) {
-        for (int run = 0; run < 300; run++) {
+        for (int run = 0; run < 600; run++) {
             IceHouse x = new IceHouse();
             prepare(x, run);
-            for (int k = 0; k < 400; k++) {
+            // With what prepare() called these stay within the 512 calls of which something is promised.
+            for (int k = 0; k < 60; k++) {
                 call(x, any(29));
                 Checks.due("WATER in run " + run, x.look(4), x.look(1) + x.look(3) - x.look(2));
             }
